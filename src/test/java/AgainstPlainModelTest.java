@@ -10,6 +10,8 @@ public final class AgainstPlainModelTest {
     private final PlainModel model = new PlainModel();
     private final StringBuilder calls = new StringBuilder();
     private final int hardness;
+    /** Works of like places and speeds meet at the ends of days, where arriving and leaving differ. */
+    private final boolean alike;
     private boolean wrong;
     static int plansFound;
     static int replansFound;
@@ -19,6 +21,7 @@ public final class AgainstPlainModelTest {
     private AgainstPlainModelTest(int seed) {
         random = new Random(seed);
         hardness = seed % 4;
+        alike = seed % 3 == 0;
     }
 
     public static void main(String[] args) {
@@ -113,7 +116,7 @@ public final class AgainstPlainModelTest {
                 break;
             case 2: {
                 int b = someWork();
-                int days = random.nextInt(3) == 0 ? pick(0, 30) : pick(0, 4);
+                int days = random.nextInt(3) == 0 ? pick(0, 30) : alike ? 0 : pick(0, 4);
                 due("after(" + a + "," + b + "," + days + ")", plans.after(a, b, days), model.after(a, b, days));
                 break;
             }
@@ -134,7 +137,7 @@ public final class AgainstPlainModelTest {
             case 5: {
                 int many = random.nextInt(4) == 0 ? 20 : 1;
                 for (int time = 0; time < many; time++) {
-                    int day = random.nextBoolean() ? pick(0, 30) : pick(0, 199);
+                    int day = alike ? pick(0, 9) : random.nextBoolean() ? pick(0, 30) : pick(0, 199);
                     due("rest(" + day + ")", plans.rest(day), model.rest(day));
                 }
                 break;
@@ -156,10 +159,10 @@ public final class AgainstPlainModelTest {
 
     private void tellWork() {
         int crew = pick(0, Math.max(0, model.kinds.size() - 1));
-        boolean isShort = random.nextBoolean();
-        int from = isShort ? pick(0, 15) : pick(0, 150);
+        boolean isShort = alike || random.nextBoolean();
+        int from = alike ? pick(0, 1) : isShort ? pick(0, 15) : pick(0, 150);
         int to = isShort ? pick(10, 40) : pick(20, 200);
-        int speed = random.nextInt(4) == 0 ? pick(1, 50) : pick(2, 12);
+        int speed = random.nextInt(4) == 0 ? pick(1, 50) : alike ? pick(4, 5) : pick(1, 12);
         boolean both = random.nextBoolean();
         due("work(" + crew + "," + from + "," + to + "," + speed + "," + both + ")",
                 plans.work(crew, from, to, speed, both), model.work(crew, from, to, speed, both));
@@ -191,7 +194,7 @@ public final class AgainstPlainModelTest {
     private void ask() {
         int a = someWork();
         int b = someWork();
-        int day = pick(0, 60);
+        int day = random.nextInt(3) == 0 ? pick(0, 400) : pick(0, 60);
         int what = pick(0, 5);
         switch (random.nextInt(14)) {
             case 0:
@@ -225,9 +228,11 @@ public final class AgainstPlainModelTest {
                 due("late(" + a + "," + days + ")", plans.late(a, days), model.late(a, days));
                 break;
             }
-            case 8:
-                due("freeze(" + day + ")", plans.freeze(day / 4), model.freeze(day / 4));
+            case 8: {
+                int before = random.nextInt(3) == 0 ? day : pick(0, 12);
+                due("freeze(" + before + ")", plans.freeze(before), model.freeze(before));
                 break;
+            }
             case 9:
                 due("moved(" + a + ")", plans.moved(a), model.moved(a));
                 break;

@@ -11,6 +11,7 @@ public final class PromisesTest {
         work();
         after();
         afterAtDaysEnds();
+        afterOverRestDays();
         season();
         bar();
         rest();
@@ -106,7 +107,9 @@ public final class PromisesTest {
         due("2 fourth", plans.crew(0), 3);
         due("2 plan is gone", plans.count(5), BAD);
         due("2 frozen is gone", plans.count(4), 0);
+        plans.run(ALL);
         due("2 fifth", plans.crew(0), BAD);
+        due("2 fifth, plan stays", plans.count(5), 2);
         due("2 crews", plans.count(0), 4);
         PlaceTimePlans late = withWork(5, false);
         late.run(ALL);
@@ -136,9 +139,10 @@ public final class PromisesTest {
         for (int work = 2; work < 6; work++) {
             due("3 work " + work, plans.work(0, 0, 1, 1, false), work);
         }
+        due("3 six works of one crew", plans.run(ALL), 9);
         due("3 seventh", plans.work(0, 0, 1, 1, false), BAD);
         due("3 works", plans.count(1), 6);
-        due("3 six works of one crew", plans.run(ALL) >= 9, true);
+        due("3 seventh, plan stays", plans.count(5), 9);
     }
 
     private static void after() {
@@ -200,6 +204,37 @@ public final class PromisesTest {
         due("4 backward, start", back.told(1, 0), 3);
     }
 
+    /** Works that are alike, 0 .. 8 with 4 places a day: on day 1, a rest day, they stay at place 4. */
+    private static void afterOverRestDays() {
+        for (int first = 0; first < 2; first++) {
+            PlaceTimePlans plans = withCrews(2);
+            plans.work(0, 0, 8, 4, false);
+            plans.work(1, 0, 8, 4, false);
+            plans.after(first, 1 - first, 0);
+            due("4 alike, without a rest day", plans.run(ALL), 2);
+            plans.rest(1);
+            due("4 arrives while the other one rests", plans.run(ALL), 4);
+            due("4 the first one", plans.told(first, 0), 0);
+            due("4 the one behind it", plans.told(1 - first, 0), 2);
+        }
+        PlaceTimePlans last = withCrews(2);
+        last.work(0, 10, 15, 5, true);
+        last.work(1, 0, 10, 10, false);
+        last.bar(0, 10, 1);
+        last.rest(1);
+        last.after(0, 1, 0);
+        due("4 does not stay at its last place over a rest day", last.run(ALL), 1);
+        due("4 last place, way", last.told(0, 2), 1);
+        due("4 last place, leaves", last.passes(0, 10, true, 0), 1);
+        PlaceTimePlans slow = withCrews(2);
+        slow.work(0, 0, 3, 1, false);
+        slow.work(1, 0, 3, 1, false);
+        slow.after(1, 0, 2);
+        slow.season(0, 5, 999);
+        due("4 one place a day", slow.run(ALL), 8);
+        due("4 slack before the other one", slow.slack(1), 3);
+    }
+
     private static void season() {
         PlaceTimePlans plans = withWork(5, false);
         due("5 season", plans.season(0, 7, 9), true);
@@ -252,7 +287,9 @@ public final class PromisesTest {
         plans.bar(0, 1, 1);
         plans.bar(0, 2, 1);
         due("6 eighth", plans.bar(0, 3, 1), true);
+        plans.run(ALL);
         due("6 ninth", plans.bar(0, 4, 1), false);
+        due("6 ninth, plan stays", plans.count(5), 9);
         due("6 eight", plans.count(3), 8);
         PlaceTimePlans back = withWork(1, true);
         due("6 day 999", back.bar(0, 0, 999), true);
@@ -289,6 +326,26 @@ public final class PromisesTest {
             over.rest(day);
         }
         due("7 all days from 200 on are working days", over.run(ALL), 201);
+        due("7 at place 5 all the time", over.at(0, 200), 5);
+        over.season(0, 0, 199);
+        due("7 no working day is left in the season", over.run(ALL), BAD);
+        over.season(0, 0, 200);
+        due("7 one is left", over.run(ALL), 201);
+        over.bar(0, 10, 201);
+        due("7 there on time", over.run(ALL), 201);
+        over.bar(0, 10, 202);
+        due("7 too early", over.run(ALL), BAD);
+        PlaceTimePlans far = withCrews(1);
+        far.work(0, 0, 200, 1, false);
+        for (int day = 100; day < 200; day++) {
+            far.rest(day);
+        }
+        due("7 over the rest days", far.run(ALL), 300);
+        due("7 over the rest days, at", far.at(0, 250), 150);
+        far.bar(0, 150, 251);
+        due("7 one day later", far.run(ALL), 301);
+        far.season(0, 0, 299);
+        due("7 the season ends before", far.run(ALL), BAD);
     }
 
     private static void most() {
@@ -502,6 +559,23 @@ public final class PromisesTest {
         touching.season(1, 1, 1);
         touching.run(ALL);
         due("16 both at once at their last shared place", touching.crosses(0, 1), false);
+        due("16 both at once, either way", touching.crosses(1, 0), false);
+        PlaceTimePlans barely = withCrews(2);
+        barely.work(0, 0, 11, 5, false);
+        barely.work(1, 0, 11, 10, false);
+        barely.season(1, 1, 2);
+        barely.run(ALL);
+        // The second one comes to 10 with the first one, at 2, and to 11 at 21/10, the first one at 11/5.
+        due("16 at the last place alone", barely.crosses(0, 1), true);
+        PlaceTimePlans resting = withCrews(2);
+        resting.work(0, 0, 8, 4, false);
+        resting.work(1, 4, 8, 8, false);
+        resting.rest(1);
+        resting.season(1, 2, 999);
+        resting.run(ALL);
+        // At place 4 the first one arrives at 1 and leaves with the other one at 2; arriving is what counts.
+        due("16 by arriving", resting.crosses(0, 1), true);
+        due("16 by arriving, either way", resting.crosses(1, 0), true);
         PlaceTimePlans meeting = withCrews(2);
         meeting.work(0, 0, 10, 5, false);
         meeting.work(1, 0, 10, 5, true);
@@ -559,6 +633,10 @@ public final class PromisesTest {
         due("19 second", plans.lone(1), 2);
         due("19 no third", plans.lone(2), BAD);
         due("19 -1", plans.lone(-1), BAD);
+        PlaceTimePlans forward = withWork(1, true);
+        forward.season(0, 5, 14);
+        forward.bar(0, 10, 6);
+        due("19 forward it can", forward.lone(0), BAD);
         PlaceTimePlans late = withWork(5, false);
         late.run(ALL);
         late.late(0, 99);
