@@ -13,6 +13,7 @@ public final class BoundariesTest {
         TermsBoundaries.all();
         ToldBoundaries.all();
         AskedBoundaries.all();
+        RefusedCalls.all();
         Sentences.end();
     }
 }

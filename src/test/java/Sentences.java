@@ -27,6 +27,13 @@ final class Sentences {
         SAID.append(words).append('\n');
     }
 
+    /** From here on the answers are asked for by many sentences together. */
+    static void together(String name) {
+        endOfSentence();
+        now = name;
+        lookedNow = 0;
+    }
+
     static void due(String what, int got, int want) {
         looked++;
         lookedNow++;

@@ -447,6 +447,12 @@ final class TermsBoundaries {
             // With start 0 it is at 1 at 1/4, which the first one leaves at 1/3.
             Sentences.due("faster" + order, faster.run(ALL), 3);
             Sentences.due("faster, start" + order, faster.told(behind, 0), 1);
+            PlaceTimePlans inADay = Twins.crews(2);
+            inADay.work(0, 0, 2, first == 0 ? 3 : 4, false);
+            inADay.work(1, 0, 2, first == 0 ? 4 : 3, false);
+            inADay.after(first, behind, 0);
+            Sentences.due("faster, in a day" + order, inADay.run(ALL), 2);
+            Sentences.due("faster, in a day, start" + order, inADay.told(behind, 0), 1);
             PlaceTimePlans slower = Twins.crews(2);
             slower.work(0, 0, 6, first == 0 ? 4 : 3, false);
             slower.work(1, 0, 6, first == 0 ? 3 : 4, false);
@@ -569,12 +575,16 @@ final class TermsBoundaries {
         Sentences.due("a day that was full before", sooner.run(ALL), 5);
         Sentences.due("a day that was full before, start", sooner.told(2, 0), 1);
         for (int kind = 0; kind < 3; kind++) {
-            PlaceTimePlans kinds = Twins.crews(3);
+            PlaceTimePlans up = Twins.crews(3);
+            PlaceTimePlans down = Twins.crews(3);
             for (int crew = 0; crew < 3; crew++) {
-                kinds.work(crew, 0, 10, 10, false);
+                up.work(crew, 0, 10, 10, false);
+                down.work(2 - crew, 0, 10, 10, false);
             }
-            kinds.most(kind, 1);
-            Sentences.due("works of other kinds beside kind " + kind, kinds.run(ALL), 1);
+            up.most(kind, 1);
+            down.most(kind, 1);
+            Sentences.due("works of other kinds beside kind " + kind, up.run(ALL), 1);
+            Sentences.due("works of other kinds before kind " + kind, down.run(ALL), 1);
         }
     }
 
