@@ -6,9 +6,12 @@ import java.lang.reflect.Method;
 import java.lang.reflect.Modifier;
 import java.nio.file.Files;
 import java.nio.file.Path;
+import java.util.List;
 import java.util.TreeSet;
+import java.util.regex.Matcher;
+import java.util.regex.Pattern;
 
-/** The public face to the letter, the words that LANGUAGE.md leaves out, and that no call makes an object. */
+/** The public face to the letter, what LANGUAGE.md leaves out or bounds, and that no call makes an object. */
 public final class FaceAndRoomTest {
     private static final String[] FACE = {
         "int crew(int)", "int work(int,int,int,int,boolean)", "boolean after(int,int,int)",
@@ -22,13 +25,17 @@ public final class FaceAndRoomTest {
         "throw", "throws", "try", "catch", "finally", "synchronized", "assert", "import", "package", "null", "System",
         "Random", "Exact", "volatile", "native",
     };
+    private static final List<String> LIBRARY = List.of("max", "min", "abs", "floorDiv", "floorMod");
     private static int wrong;
 
     public static void main(String[] args) throws IOException {
         lookAtFace();
         lookAtWords();
+        lookAtLibrary();
+        lookAtMethodLengths();
+        lookAtClasses();
         lookAtRoom();
-        System.out.println("face, words and room: " + wrong + " faults");
+        System.out.println("face, language and room: " + wrong + " faults");
         if (wrong != 0) {
             System.exit(1);
         }
@@ -48,7 +55,7 @@ public final class FaceAndRoomTest {
     }
 
     private static void lookAtFace() {
-        TreeSet<String> want = new TreeSet<>(java.util.List.of(FACE));
+        TreeSet<String> want = new TreeSet<>(List.of(FACE));
         TreeSet<String> got = new TreeSet<>();
         TreeSet<String> publicNames = new TreeSet<>();
         for (Method method : PlaceTimePlans.class.getDeclaredMethods()) {
@@ -80,16 +87,81 @@ public final class FaceAndRoomTest {
         }
     }
 
-    private static void lookAtWords() throws IOException {
+    private static String code() throws IOException {
         String text = Files.readString(Path.of("src/main/java/PlaceTimePlans.java"));
-        String code = text.replaceAll("(?s)/\\*.*?\\*/", " ").replaceAll("//[^\n]*", " ");
+        return text.replaceAll("(?s)/\\*.*?\\*/", " ").replaceAll("//[^\n]*", " ");
+    }
+
+    private static void lookAtWords() throws IOException {
+        String code = code();
         for (String word : LEFT_OUT) {
-            if (java.util.regex.Pattern.compile("\\b" + word + "\\b").matcher(code).find()) {
+            if (Pattern.compile("\\b" + word + "\\b").matcher(code).find()) {
                 fault("the program has the word " + word);
             }
         }
         if (code.contains("->") || code.contains("::") || code.contains("\"")) {
             fault("the program has a lambda, a method reference or a text");
+        }
+    }
+
+    /** Rule 4: of the library only functions over numbers are used. */
+    private static void lookAtLibrary() throws IOException {
+        Matcher use = Pattern.compile("\\b([A-Z][a-z]\\w*)\\.(\\w+)").matcher(code());
+        while (use.find()) {
+            if (!use.group(1).equals("Math") || !LIBRARY.contains(use.group(2))) {
+                fault("the program uses " + use.group());
+            }
+        }
+    }
+
+    /** Rule 11: methods stay short. One ends at the first brace that stands as far left as its head. */
+    private static void lookAtMethodLengths() throws IOException {
+        String text = Files.readString(Path.of("src/main/java/PlaceTimePlans.java"));
+        Matcher method = Pattern.compile("(?ms)^( +)[\\w<>\\[\\] ]+\\([^;{}]*\\) \\{$.*?^\\1\\}$").matcher(text);
+        int methods = 0;
+        while (method.find()) {
+            methods++;
+            if (method.group().lines().count() > 60) {
+                fault("a long method: " + method.group().lines().findFirst());
+            }
+        }
+        if (methods < FACE.length) {
+            fault("methods found: " + methods);
+        }
+    }
+
+    /** Rules 2, 5 and 11: how many classes, fields and parameters there are, and what is static. */
+    private static void lookAtClasses() {
+        Class<?>[] inside = PlaceTimePlans.class.getDeclaredClasses();
+        if (inside.length + 1 > 12) {
+            fault("classes: " + inside.length);
+        }
+        lookAtClass(PlaceTimePlans.class);
+        for (Class<?> one : inside) {
+            int modifiers = one.getModifiers();
+            if (!Modifier.isStatic(modifiers) || Modifier.isPublic(modifiers) || Modifier.isProtected(modifiers)) {
+                fault("a class inside that is not static, or seen from outside: " + one.getName());
+            }
+            lookAtClass(one);
+        }
+    }
+
+    private static void lookAtClass(Class<?> one) {
+        int fields = 0;
+        for (Field field : one.getDeclaredFields()) {
+            if (!Modifier.isStatic(field.getModifiers())) {
+                fields++;
+            } else if (!Modifier.isFinal(field.getModifiers())) {
+                fault("a static field that is not final: " + field.getName());
+            }
+        }
+        if (fields > 20) {
+            fault(one.getName() + " has fields: " + fields);
+        }
+        for (Method method : one.getDeclaredMethods()) {
+            if (method.getParameterCount() > 7) {
+                fault("parameters of " + method.getName());
+            }
         }
     }
 
